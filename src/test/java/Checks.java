@@ -2,12 +2,18 @@
 final class Checks {
     private int checked = 0;
     private int wrong = 0;
+    private String about = "";
+
+    /** What is looked at from here on: a promise, and the words of the document that name the boundary. */
+    void sentence(int promise, String words) {
+        about = "promise " + promise + ", \"" + words + "\": ";
+    }
 
     void due(String call, long got, long want) {
         checked++;
         if (got != want) {
             wrong++;
-            System.out.println(call + " answered " + got + ", due is " + want);
+            System.out.println(about + call + " answered " + got + ", due is " + want);
         }
     }
 
