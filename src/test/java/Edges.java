@@ -18,10 +18,26 @@ final class Edges {
 
     /** Something of everything: doors open, minutes gone by, an image, gasps, a row of six, some letters. */
     static NeverBothDoors lived() {
+        NeverBothDoors x = early();
+        x.image();
+        liveOn(x);
+        return x;
+    }
+
+    static NeverBothDoors livedWithoutImage() {
+        NeverBothDoors x = early();
+        liveOn(x);
+        return x;
+    }
+
+    private static NeverBothDoors early() {
         NeverBothDoors x = Checks.burrowOf("r0,50;k13;l0111;l0625;l1232;l3641;l2319;l4511;pp01,7;pc12,0;pw62,4;s12;s21;");
         x.open(4, 1);
         x.minutes(3);
-        x.image();
+        return x;
+    }
+
+    private static void liveOn(NeverBothDoors x) {
         x.open(3, 2);
         x.leak(2, 4);
         x.passes(0, 0);
@@ -31,7 +47,6 @@ final class Edges {
         }
         x.letter('k');
         x.letter('4');
-        return x;
     }
 
     /** All places full: 7 locks, 5 people, minute 999, 12 in the row, 96 letters; and an image of nothing. */

@@ -9,6 +9,7 @@ public final class ImageEdgesTest {
         promise28None();
         promise28AllIsAsThen();
         promise28OfNothingAndOfAll();
+        promise28NoDoorIsLeft();
         promise28NotInIt();
         promise28AgainAndAgain();
         promise28ARefusedCallKeepsIt();
@@ -31,9 +32,17 @@ public final class ImageEdgesTest {
     private static void promise27NothingElseChanges() {
         c.sentence(27, "THE IMAGE is taken: MINUTE.");
         NeverBothDoors x = Edges.lived();
+        x.room(6, 0);
+        int[] before = new int[17];
+        for (int what = 0; what < before.length; what++) {
+            before[what] = x.count(what);
+        }
         x.image();
+        for (int what = 0; what < before.length; what++) {
+            c.due("count(" + what + ") behind image()", x.count(what), before[what]);
+        }
         x.on();
-        NeverBothDoors y = Edges.lived();
+        NeverBothDoors y = Edges.livedWithoutImage();
         y.image();
         Edges.dueSame(c, "on() at once behind image()", x, y);
     }
@@ -52,7 +61,7 @@ public final class ImageEdgesTest {
     private static void promise28None() {
         c.sentence(28, "ON from it: MINUTE. -3 there is none.");
         Edges.refused(c, NeverBothDoors::new, "on(), nothing there", x -> x.on(), -3);
-        Edges.refused(c, () -> Checks.burrowOf("r0,7;pp01,0;l0111;s11;"), "on(), no image", x -> x.on(), -3);
+        Edges.refused(c, Edges::livedWithoutImage, "on(), no image", x -> x.on(), -3);
         NeverBothDoors x = new NeverBothDoors();
         c.due("on()", x.on(), -3);
         c.due("on() again", x.on(), -3);
@@ -106,6 +115,17 @@ public final class ImageEdgesTest {
         c.due("minute", full.count(2), 999);
         c.due("no room for a lock", Checks.told(full, "l0111;"), -2000);
         c.due("no room for one more", Checks.told(full, "pp01,0;"), -2000);
+    }
+
+    private static void promise28NoDoorIsLeft() {
+        c.sentence(28, "ON from it all is as then");
+        NeverBothDoors x = Checks.burrowOf("l0111;");
+        x.image();
+        Checks.told(x, "l2311;");
+        x.open(1, 2);
+        x.on();
+        Checks.told(x, "l2411;");
+        c.due("both are shut at first, though that one's was open", x.lock(1, 4), 0);
     }
 
     private static void promise28NotInIt() {

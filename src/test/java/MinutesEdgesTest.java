@@ -162,6 +162,9 @@ public final class MinutesEdgesTest {
         }
         c.due("in mind", x.room(1, 0), 99);
         c.due("no minute", x.count(2), 0);
+        NeverBothDoors lived = Edges.lived();
+        lived.air(0, 99);
+        Edges.dueSame(c, "air(0, 99) is in mind", lived, Edges.lived());
     }
 
     private static void promise11Refusals() {

@@ -135,8 +135,12 @@ final class Model {
         return true;
     }
 
-    private long at(int place) {
-        return beings.stream().filter(b -> b.at == place).count();
+    private int at(int place) {
+        int n = 0;
+        for (Being b : beings) {
+            if (b.at == place) n++;
+        }
+        return n;
     }
 
     private int breath(Being b) {
@@ -155,7 +159,11 @@ final class Model {
     }
 
     private int breathIn(int room) {
-        return beings.stream().filter(b -> b.at == room).mapToInt(this::breath).sum();
+        int n = 0;
+        for (Being b : beings) {
+            if (b.at == room) n += breath(b);
+        }
+        return n;
     }
 
     private int live(int n) {
@@ -182,7 +190,7 @@ final class Model {
     int room(int r, int what) {
         if (r < 0 || r > 5) return no(-1);
         if (what < 0 || what > 3) return no(-2);
-        return new int[] {air[r], leak[r], (int) at(r), breathIn(r)}[what];
+        return new int[] {air[r], leak[r], at(r), breathIn(r)}[what];
     }
 
     int lock(int i, int what) {

@@ -14,6 +14,7 @@ public final class StateEdgesTest {
         promise6Alone();
         promise6Outside();
         promise6Refusals();
+        nothingChanges();
         c.end();
     }
 
@@ -163,5 +164,16 @@ public final class StateEdgesTest {
         Edges.refused(c, Edges::lived, "person(0, least)", x -> x.person(0, Edges.LEAST), -2);
         Edges.refused(c, Edges::lived, "person(3, 5), both", x -> x.person(3, 5), -1);
         Edges.refused(c, Edges::lived, "person(-1, -1), both", x -> x.person(-1, -1), -1);
+    }
+
+    private static void nothingChanges() {
+        NeverBothDoors x = Edges.lived();
+        for (int what = 0; what < 5; what++) {
+            x.lock(4, what);
+            x.person(0, what);
+            x.room(0, Math.min(what, 3));
+        }
+        c.sentence(4, "Of a ROOM");
+        Edges.dueSame(c, "room(), lock() and person() only tell", x, Edges.lived());
     }
 }
